@@ -823,8 +823,8 @@ public final class LinkYard {
                     find(s);
                 }
             }
-            // A section is found once, so the queue ends at the sections' count at the latest.
-            for (int done = 0; done < found; done++) {
+            // The queue grows as it is gone through, but a section is found only once.
+            for (int done = 0; done < found && done < MOST_SECTIONS; done++) {
                 spreadFrom(queue[done]);
             }
         }
