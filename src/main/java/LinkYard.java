@@ -588,7 +588,9 @@ public final class LinkYard {
                 filled[s] = start[s];
             }
             for (int r = 0; r < count; r++) {
-                sorted[filled[section[r]]++] = r;
+                int s = section[r];
+                sorted[filled[s]] = r;
+                filled[s]++;
             }
         }
 
@@ -658,9 +660,17 @@ public final class LinkYard {
             units.in[unit] = true;
             for (int s = 0; s < symbols.count; s++) {
                 if (symbols.unit[s] == unit) {
-                    asked[symbols.name[s]] |= symbols.asksForName(s);
-                    given[symbols.name[s]] |= symbols.givesName(s);
+                    note(s);
                 }
+            }
+        }
+
+        private void note(int symbol) {
+            if (symbols.asksForName(symbol)) {
+                asked[symbols.name[symbol]] = true;
+            }
+            if (symbols.givesName(symbol)) {
+                given[symbols.name[symbol]] = true;
             }
         }
 
@@ -971,7 +981,7 @@ public final class LinkYard {
             boolean changed = false;
             for (int s = 0; s < sections.count; s++) {
                 finer[s] = firstOfSameTargets(s);
-                changed |= finer[s] != leader[s];
+                changed = changed || finer[s] != leader[s];
             }
             System.arraycopy(finer, 0, leader, 0, sections.count);
             return changed;
