@@ -58,20 +58,19 @@ abstract class Edge {
         return x.link(8192) + " " + answers(x) + counts(x);
     }
 
-    /** What some forty calls answer; more would go beyond an object's 512 calls. */
+    /** What 29 calls answer: few enough that a full object, asked thrice, has had under 512. */
     static String answers(LinkYard x) {
         StringBuilder text = new StringBuilder();
         for (int what = 0; what < 8; what++) {
             int n = what;
             text.append(Check.outcome(() -> x.about(n))).append(' ');
-            text.append(Check.outcome(() -> x.fault(n))).append(' ');
         }
-        for (int number = 0; number < 4; number++) {
+        for (int number = 0; number < 3; number++) {
             int n = number;
+            text.append(Check.outcome(() -> x.fault(n))).append(' ');
             text.append(Check.outcome(() -> x.isIn(n))).append(' ');
             text.append(Check.outcome(() -> x.address(n))).append(' ');
             text.append(Check.outcome(() -> x.like(n))).append(' ');
-            text.append(Check.outcome(() -> x.means(n, 0))).append(' ');
             text.append(Check.outcome(() -> x.means(n, 2))).append(' ');
             text.append(Check.outcome(() -> x.common(n))).append(' ');
             text.append(Check.outcome(() -> x.at(8192 + 4 * n))).append(' ');

@@ -195,6 +195,11 @@ public final class EdgeLinkTest extends Edge {
         x.keep(0, false);
         Check.is("without a fault", 0, x.link(0));
         isFault("without a fault", x, 0, NONE, NONE);
+        LinkYard y = mender(0, NEAR, 1048584, 0);
+        faults("far from 0", y, FAR, NONE, 0);
+        Check.is("linked elsewhere, with nothing told between", 8, y.link(1048576));
+        isFault("without a fault now", y, 0, NONE, NONE);
+        faults("far from 0 again", y, FAR, NONE, 0);
     }
 
     /** Terms: IN are the loose units: there may be none. */
