@@ -31,7 +31,7 @@ public final class ModelTest {
         for (int kind = 0; kind <= 5; kind++) {
             Check.is("fault " + kind + " is met often", true, seen[kind] > 50);
         }
-        Check.is("folding is met often", true, folded > 50);
+        Check.is("folding is met often", true, folded > 200);
         Check.is("islands are met often", true, island > 50);
         Check.is("grouped members are met often", true, groupedIn > 50);
         Check.end();
@@ -83,7 +83,9 @@ public final class ModelTest {
         for (int i = upTo(flavour == 2 ? 6 : 30); i > 0; i--) {
             tellWord();
         }
-        for (int i = 4 + upTo(60); i > 0; i--) {
+        // Few loose ends in some of the runs with twins: a link with a fault folds nothing.
+        boolean few = run % 8 == 6;
+        for (int i = few ? upTo(8) : 4 + upTo(60); i > 0; i--) {
             tellSymbol();
         }
         if (flavour == 2) {
@@ -92,7 +94,7 @@ public final class ModelTest {
         if (flavour == 0 && run % 8 == 0) {
             tellBorder();
         }
-        for (int i = 2 + upTo(flavour == 1 ? 160 : 40); i > 0; i--) {
+        for (int i = few ? upTo(6) : 2 + upTo(flavour == 1 ? 160 : 40); i > 0; i--) {
             tellRelocation();
         }
         for (int i = upTo(8); i > 0; i--) {
